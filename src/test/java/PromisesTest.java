@@ -28,6 +28,8 @@ public final class PromisesTest {
         test.repair();
         test.undo();
         test.undoOfEachAction();
+        test.undoOfBlocks();
+        test.undoOfMany();
         test.append();
         test.clearText();
         test.runCommands();
@@ -380,6 +382,9 @@ public final class PromisesTest {
         due("8: slot(1, 0)", x.slot(1, 0), 1);
         due("8: slot(1, 1)", x.slot(1, 1), NONE);
         due("8: slot(2, 0)", x.slot(2, 0), 0);
+        due("8: kept", x.count(3), 4);
+        due("8: used", x.count(1), 2);
+        due("8: free", x.count(0), 314);
         due("8: slot(16, 1)", x.slot(16, 1), 1);
         due("8: giveUp(0) again", x.giveUp(0), INVALID);
         due("8: block(0, 0)", x.block(0, 0), NONE);
@@ -454,28 +459,38 @@ public final class PromisesTest {
         due("11: used", y.count(1), 0);
     }
 
+    /** Each on an object of its own, so that no state of an earlier action can stand in for its own. */
     private void undoOfEachAction() {
-        SlotMaps x = after("t33;f3;r8;r4;b0;d5;");
-        x.takeRun(3);
-        dueUndone(x, "takeRun");
-        x.giveBack(0, 40);
-        dueUndone(x, "giveBack");
-        x.clear(1);
-        dueUndone(x, "clear");
-        x.reserve(32);
-        dueUndone(x, "reserve");
-        x.takeIn(0);
-        dueUndone(x, "takeIn");
-        x.giveUp(0);
-        dueUndone(x, "giveUp");
-        x.damage(5);
-        dueUndone(x, "damage");
-        x.repair();
-        dueUndone(x, "repair");
-        program(x, "a;t5;");
-        dueUndone(x, "run");
-        x.take();
-        dueUndone(x, "take");
+        for (int action = 0; action < 10; action++) {
+            SlotMaps x = after("t33;f3;r8;r4;b0;d5;");
+            due("11: action " + action + " is successful", act(x, action) >= 0 ? 1 : 0, 1);
+            dueUndone(x, "action " + action);
+        }
+    }
+
+    private static int act(SlotMaps x, int action) {
+        switch (action) {
+            case 0:
+                return x.take();
+            case 1:
+                return x.takeRun(3);
+            case 2:
+                return x.giveBack(0, 40);
+            case 3:
+                return x.clear(1);
+            case 4:
+                return x.reserve(32);
+            case 5:
+                return x.takeIn(0);
+            case 6:
+                return x.giveUp(0);
+            case 7:
+                return x.damage(5);
+            case 8:
+                return x.repair();
+            default:
+                return program(x, "a;t5;");
+        }
     }
 
     private void dueUndone(SlotMaps x, String action) {
@@ -493,6 +508,34 @@ public final class PromisesTest {
         due(call + "slot(40, 0)", x.slot(40, 0), 1);
         due(call + "slot(3, 0)", x.slot(3, 0), 2);
         due(call + "word(5, 4)", x.word(5, 4), 1);
+    }
+
+    private void undoOfBlocks() {
+        SlotMaps x = after("t5;r8;r4;");
+        x.giveUp(0);
+        x.reserve(16);
+        due("11: the new block", x.block(0, 0), 32);
+        due("11: undo() of it", x.undo(), 2);
+        due("11: no block", x.block(0, 0), NONE);
+        due("11: undo() of giveUp()", x.undo(), 1);
+        due("11: block(0, 0)", x.block(0, 0), 8);
+        due("11: block(0, 1)", x.block(0, 1), 8);
+        due("11: slot(8, 1)", x.slot(8, 1), 0);
+    }
+
+    /** Past the fifth state the oldest one is dropped, however often. */
+    private void undoOfMany() {
+        for (int takes = 6; takes < 30; takes++) {
+            SlotMaps x = new SlotMaps();
+            for (int i = 0; i < takes; i++) {
+                x.take();
+            }
+            for (int left = 4; left >= 0; left--) {
+                due("11: undo() after " + takes, x.undo(), left);
+                due("11: used after " + takes, x.count(1), takes - 5 + left);
+            }
+            due("11: undo() of nothing after " + takes, x.undo(), STATE);
+        }
     }
 
     private void append() {
@@ -657,6 +700,11 @@ public final class PromisesTest {
         due("14: the text stays", x.count(11), 27);
         due("14: undo() is that of take()", x.undo(), 1);
         due("14: used then", x.count(1), 40);
+        for (String broken : new String[] {"t", "f5-", "d10", "r8;b"}) {
+            program(x, broken);
+            due("14: run() after " + broken, program(x, "t;"), 1);
+        }
+        due("14: used then", x.count(1), 44);
     }
 
     private void count() {
@@ -773,6 +821,9 @@ public final class PromisesTest {
         for (int what : new int[] {-1, 3, Integer.MIN_VALUE, Integer.MAX_VALUE}) {
             due("20: next(" + what + ")", x.next(what), INVALID);
         }
+        due("20: the slot 0", new SlotMaps().next(0), 0);
+        due("20: one look", new SlotMaps().next(1), 1);
+        due("20: the last free slot, without clearing", after("t319;f0-9;").next(2), 0);
         due("20: free slots are found without clearing", after("t5;f2;").next(2), 0);
     }
 
