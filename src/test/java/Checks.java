@@ -11,6 +11,10 @@ final class Checks {
         }
     }
 
+    int answers() {
+        return answers;
+    }
+
     void holds(String fact, boolean isSo) {
         due(fact, isSo ? 1 : 0, 1);
     }

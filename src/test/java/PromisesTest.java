@@ -1,12 +1,6 @@
 /** For each promise of the document: ordinary inputs, the edges that it names, and wrong inputs. */
-public final class PromisesTest {
-    private static final int INVALID = -1;
-    private static final int STATE = -2;
-    private static final int CAPACITY = -3;
-    private static final int NONE = -9;
+public final class PromisesTest extends MapChecks {
     private static final int[] FAR = {Integer.MIN_VALUE, -1000000, -1, Integer.MAX_VALUE};
-
-    private final Checks checks = new Checks();
 
     public static void main(String[] args) {
         PromisesTest test = new PromisesTest();
@@ -46,32 +40,7 @@ public final class PromisesTest {
         test.placeFor();
         test.takes();
         test.looksChangeNothing();
-        test.checks.end();
-    }
-
-    private void due(String call, long got, long want) {
-        checks.due(call, got, want);
-    }
-
-    private static int program(SlotMaps x, String text) {
-        x.clearText();
-        for (int i = 0; i < text.length(); i++) {
-            x.append(text.charAt(i));
-        }
-        return x.run();
-    }
-
-    private static SlotMaps after(String text) {
-        SlotMaps x = new SlotMaps();
-        if (program(x, text) < 0) {
-            throw new IllegalStateException("the program fails: " + text);
-        }
-        return x;
-    }
-
-    /** The answer of a program on a new object. */
-    private void dueOf(String text, int want) {
-        due("run() of " + text, program(new SlotMaps(), text), want);
+        test.end();
     }
 
     private void newObject() {
