@@ -1,14 +1,7 @@
 /** The boundary cases of the promises 6 to 8: reserve, takeIn, giveUp. */
 public final class BlocksBoundariesTest extends MapChecks {
-    private static final int[] SIZES = {4, 8, 16, 32};
-    private static final String EIGHT_BLOCKS = "r4;r4;r4;r4;r4;r4;r4;r4;";
-
     public static void main(String[] args) throws ReflectiveOperationException {
         new BlocksBoundariesTest().runPromises(6, 8);
-    }
-
-    private static boolean isSize(int size) {
-        return size == 4 || size == 8 || size == 16 || size == 32;
     }
 
     void promise06SizeIsNoneOfThese() {
@@ -20,9 +13,9 @@ public final class BlocksBoundariesTest extends MapChecks {
         }
         due("reserve(LEAST)", x.reserve(LEAST), INVALID);
         due("reserve(MOST)", x.reserve(MOST), INVALID);
-        dueRefused(start("t5;"), "reserve(0)", y -> y.reserve(0), INVALID);
-        dueRefused(start("t5;"), "reserve(5)", y -> y.reserve(5), INVALID);
-        dueRefused(start("t5;"), "reserve(64)", y -> y.reserve(64), INVALID);
+        dueUnchanged(start("t5;"), "reserve(0)", y -> y.reserve(0), INVALID);
+        dueUnchanged(start("t5;"), "reserve(5)", y -> y.reserve(5), INVALID);
+        dueUnchanged(start("t5;"), "reserve(64)", y -> y.reserve(64), INVALID);
     }
 
     void promise06SizeIsToldBeforeNoRoom() {
@@ -50,7 +43,7 @@ public final class BlocksBoundariesTest extends MapChecks {
 
     void promise06NinthBlock() {
         for (int size : SIZES) {
-            dueRefused(start(EIGHT_BLOCKS), "reserve(" + size + ")", x -> x.reserve(size), CAPACITY);
+            dueUnchanged(start(EIGHT_BLOCKS), "reserve(" + size + ")", x -> x.reserve(size), CAPACITY);
         }
         due("there is a place", after(EIGHT_BLOCKS).placeFor(4), 32);
     }
@@ -76,10 +69,10 @@ public final class BlocksBoundariesTest extends MapChecks {
 
     void promise06NoPlace() {
         for (int size : SIZES) {
-            dueRefused(start("t;", "t319;"), "reserve(" + size + ")", x -> x.reserve(size), CAPACITY);
+            dueUnchanged(start("t;", "t319;"), "reserve(" + size + ")", x -> x.reserve(size), CAPACITY);
         }
-        dueRefused(start("t320;f0-319;"), "reserve(4) of lazy slots", x -> x.reserve(4), CAPACITY);
-        dueRefused(start("r32;t288;"), "reserve(4) of kept slots", x -> x.reserve(4), CAPACITY);
+        dueUnchanged(start("t320;f0-319;"), "reserve(4) of lazy slots", x -> x.reserve(4), CAPACITY);
+        dueUnchanged(start("r32;t288;"), "reserve(4) of kept slots", x -> x.reserve(4), CAPACITY);
     }
 
     void promise06LastPlace() {
@@ -91,19 +84,19 @@ public final class BlocksBoundariesTest extends MapChecks {
             due("the last slot", x.slot(319, 0), 3);
             due("its block", x.slot(319, 1), 0);
             due("free", x.count(0), 0);
-            dueRefused(start("t" + (last + 1) + ";"), "reserve(" + size + ")", y -> y.reserve(size), CAPACITY);
+            dueUnchanged(start("t" + (last + 1) + ";"), "reserve(" + size + ")", y -> y.reserve(size), CAPACITY);
         }
     }
 
     void promise06BeginsAtASlotDivisibleByItsSize() {
-        dueRefused(start("t320;f2-5;c1;"), "reserve(4)", x -> x.reserve(4), CAPACITY);
-        dueRefused(start("t320;f1-6;c1;"), "reserve(4)", x -> x.reserve(4), CAPACITY);
-        dueRefused(start("t320;f4-11;c1;"), "reserve(8)", x -> x.reserve(8), CAPACITY);
-        dueRefused(start("t320;f1-14;c1;"), "reserve(8)", x -> x.reserve(8), CAPACITY);
-        dueRefused(start("t320;f8-23;c1;"), "reserve(16)", x -> x.reserve(16), CAPACITY);
-        dueRefused(start("t320;f1-30;c1;"), "reserve(16)", x -> x.reserve(16), CAPACITY);
-        dueRefused(start("t320;f16-47;c2;"), "reserve(32)", x -> x.reserve(32), CAPACITY);
-        dueRefused(start("t320;f1-62;c2;"), "reserve(32)", x -> x.reserve(32), CAPACITY);
+        dueUnchanged(start("t320;f2-5;c1;"), "reserve(4)", x -> x.reserve(4), CAPACITY);
+        dueUnchanged(start("t320;f1-6;c1;"), "reserve(4)", x -> x.reserve(4), CAPACITY);
+        dueUnchanged(start("t320;f4-11;c1;"), "reserve(8)", x -> x.reserve(8), CAPACITY);
+        dueUnchanged(start("t320;f1-14;c1;"), "reserve(8)", x -> x.reserve(8), CAPACITY);
+        dueUnchanged(start("t320;f8-23;c1;"), "reserve(16)", x -> x.reserve(16), CAPACITY);
+        dueUnchanged(start("t320;f1-30;c1;"), "reserve(16)", x -> x.reserve(16), CAPACITY);
+        dueUnchanged(start("t320;f16-47;c2;"), "reserve(32)", x -> x.reserve(32), CAPACITY);
+        dueUnchanged(start("t320;f1-62;c2;"), "reserve(32)", x -> x.reserve(32), CAPACITY);
     }
 
     void promise06AllItsSlotsMustBeFree() {
@@ -168,9 +161,9 @@ public final class BlocksBoundariesTest extends MapChecks {
 
     void promise07NoSuchBlock() {
         for (int block : new int[] {-1, 1, 7, 8, LEAST, MOST}) {
-            dueRefused(start("r4;"), "takeIn(" + block + ")", x -> x.takeIn(block), INVALID);
+            dueUnchanged(start("r4;"), "takeIn(" + block + ")", x -> x.takeIn(block), INVALID);
         }
-        dueRefused(start(), "takeIn(0)", x -> x.takeIn(0), INVALID);
+        dueUnchanged(start(), "takeIn(0)", x -> x.takeIn(0), INVALID);
         due("8 blocks: takeIn(8)", after(EIGHT_BLOCKS).takeIn(8), INVALID);
         due("8 blocks: takeIn(-1)", after(EIGHT_BLOCKS).takeIn(-1), INVALID);
     }
@@ -189,8 +182,8 @@ public final class BlocksBoundariesTest extends MapChecks {
     }
 
     void promise07NoneOfItsSlotsIsKept() {
-        dueRefused(start("r4;b0;b0;b0;b0;"), "takeIn(0)", x -> x.takeIn(0), CAPACITY);
-        dueRefused(start("r4;r4;b0;b0;b0;b0;"), "takeIn(0) beside a kept block", x -> x.takeIn(0), CAPACITY);
+        dueUnchanged(start("r4;b0;b0;b0;b0;"), "takeIn(0)", x -> x.takeIn(0), CAPACITY);
+        dueUnchanged(start("r4;r4;b0;b0;b0;b0;"), "takeIn(0) beside a kept block", x -> x.takeIn(0), CAPACITY);
     }
 
     void promise07FirstToLastKeptSlotOfEachSize() {
@@ -234,9 +227,9 @@ public final class BlocksBoundariesTest extends MapChecks {
 
     void promise08NoSuchBlock() {
         for (int block : new int[] {-1, 1, 7, 8, LEAST, MOST}) {
-            dueRefused(start("r4;"), "giveUp(" + block + ")", x -> x.giveUp(block), INVALID);
+            dueUnchanged(start("r4;"), "giveUp(" + block + ")", x -> x.giveUp(block), INVALID);
         }
-        dueRefused(start(), "giveUp(0)", x -> x.giveUp(0), INVALID);
+        dueUnchanged(start(), "giveUp(0)", x -> x.giveUp(0), INVALID);
         due("8 blocks: giveUp(8)", after(EIGHT_BLOCKS).giveUp(8), INVALID);
         due("8 blocks: giveUp(-1)", after(EIGHT_BLOCKS).giveUp(-1), INVALID);
     }

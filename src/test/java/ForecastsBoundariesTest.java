@@ -1,9 +1,5 @@
 /** The boundary cases of the promises 20 to 23: next, runAt, placeFor, takes. */
 public final class ForecastsBoundariesTest extends MapChecks {
-    private static final int[] SIZES = {4, 8, 16, 32};
-    private static final String ALL_BITS = "d0;d1;d2;d3;d4;d5;d6;d7;d8;d9;";
-    private static final String EIGHT_BLOCKS = "r4;r4;r4;r4;r4;r4;r4;r4;";
-
     public static void main(String[] args) throws ReflectiveOperationException {
         new ForecastsBoundariesTest().runPromises(20, 23);
     }
@@ -24,7 +20,7 @@ public final class ForecastsBoundariesTest extends MapChecks {
 
     void promise20WhatOutOfRange() {
         for (int what : new int[] {-1, 3, LEAST, MOST}) {
-            dueLook(start("t5;"), "next(" + what + ")", x -> x.next(what), INVALID);
+            dueUnchanged(start("t5;"), "next(" + what + ")", x -> x.next(what), INVALID);
         }
     }
 
@@ -36,9 +32,9 @@ public final class ForecastsBoundariesTest extends MapChecks {
     void promise20TakeWouldBeRefused() {
         for (int what = 0; what < 3; what++) {
             int asked = what;
-            dueLook(start("t;", "t319;"), "next(" + what + ")", x -> x.next(asked), NONE);
-            dueLook(start("r32;t288;"), "next(" + what + ")", x -> x.next(asked), NONE);
-            dueLook(start("t320;", "f64-95;c1;d2;d4;"), "next(" + what + ")", x -> x.next(asked), NONE);
+            dueUnchanged(start("t;", "t319;"), "next(" + what + ")", x -> x.next(asked), NONE);
+            dueUnchanged(start("r32;t288;"), "next(" + what + ")", x -> x.next(asked), NONE);
+            dueUnchanged(start("t320;", "f64-95;c1;d2;d4;"), "next(" + what + ")", x -> x.next(asked), NONE);
             due("all words passed over: next(" + what + ")", after(ALL_BITS).next(what), NONE);
         }
     }
@@ -71,20 +67,20 @@ public final class ForecastsBoundariesTest extends MapChecks {
 
     void promise20ChangesNothing() {
         String[] programs = start("t320;", "f64-70;f319;", "d0;d9;");
-        dueLook(programs, "next(0)", x -> x.next(0), 64);
-        dueLook(programs, "next(1)", x -> x.next(1), 3);
-        dueLook(programs, "next(2)", x -> x.next(2), 1);
+        dueUnchanged(programs, "next(0)", x -> x.next(0), 64);
+        dueUnchanged(programs, "next(1)", x -> x.next(1), 3);
+        dueUnchanged(programs, "next(2)", x -> x.next(2), 1);
     }
 
     void promise21ManyTooSmall() {
         for (int many : new int[] {0, -1, LEAST}) {
-            dueLook(start("t5;"), "runAt(" + many + ")", x -> x.runAt(many), INVALID);
+            dueUnchanged(start("t5;"), "runAt(" + many + ")", x -> x.runAt(many), INVALID);
         }
     }
 
     void promise21ManyTooLarge() {
         for (int many : new int[] {65, 320, MOST}) {
-            dueLook(start("t5;"), "runAt(" + many + ")", x -> x.runAt(many), INVALID);
+            dueUnchanged(start("t5;"), "runAt(" + many + ")", x -> x.runAt(many), INVALID);
         }
     }
 
@@ -94,14 +90,14 @@ public final class ForecastsBoundariesTest extends MapChecks {
     }
 
     void promise21LeastAndMostMany() {
-        dueLook(start("t5;d0;"), "runAt(1)", x -> x.runAt(1), 5);
-        dueLook(start("t5;d0;"), "runAt(64)", x -> x.runAt(64), 5);
+        dueUnchanged(start("t5;d0;"), "runAt(1)", x -> x.runAt(1), 5);
+        dueUnchanged(start("t5;d0;"), "runAt(64)", x -> x.runAt(64), 5);
     }
 
     void promise21NoSuchRun() {
-        dueLook(start("t320;"), "runAt(1)", x -> x.runAt(1), NONE);
-        dueLook(start("t320;f0-99;"), "runAt(1) of lazy slots", x -> x.runAt(1), NONE);
-        dueLook(start("t257;"), "runAt(64)", x -> x.runAt(64), NONE);
+        dueUnchanged(start("t320;"), "runAt(1)", x -> x.runAt(1), NONE);
+        dueUnchanged(start("t320;f0-99;"), "runAt(1) of lazy slots", x -> x.runAt(1), NONE);
+        dueUnchanged(start("t257;"), "runAt(64)", x -> x.runAt(64), NONE);
         due("one is enough", after("t257;").runAt(63), 257);
         due("each row is too short", after("t320;f0-2;f10-11;f317-319;c10;").runAt(4), NONE);
         due("one row is as long", after("t320;f0-1;f10-11;f317-319;c10;").runAt(3), 317);
@@ -135,28 +131,28 @@ public final class ForecastsBoundariesTest extends MapChecks {
     void promise22SizeIsNoneOfThese() {
         SlotMaps x = new SlotMaps();
         for (int size = -40; size <= 130; size++) {
-            if (size != 4 && size != 8 && size != 16 && size != 32) {
+            if (!isSize(size)) {
                 due("placeFor(" + size + ")", x.placeFor(size), INVALID);
             }
         }
         due("placeFor(LEAST)", x.placeFor(LEAST), INVALID);
         due("placeFor(MOST)", x.placeFor(MOST), INVALID);
-        dueLook(start("t320;"), "placeFor(5) without a place", y -> y.placeFor(5), INVALID);
-        dueLook(start("t320;"), "placeFor(0) without a place", y -> y.placeFor(0), INVALID);
+        dueUnchanged(start("t320;"), "placeFor(5) without a place", y -> y.placeFor(5), INVALID);
+        dueUnchanged(start("t320;"), "placeFor(0) without a place", y -> y.placeFor(0), INVALID);
     }
 
     void promise22FirstAndLastPlace() {
         for (int size : SIZES) {
             int last = 320 - size;
-            dueLook(start(), "placeFor(" + size + ")", x -> x.placeFor(size), 0);
-            dueLook(start("t" + last + ";"), "placeFor(" + size + ")", x -> x.placeFor(size), last);
+            dueUnchanged(start(), "placeFor(" + size + ")", x -> x.placeFor(size), 0);
+            dueUnchanged(start("t" + last + ";"), "placeFor(" + size + ")", x -> x.placeFor(size), last);
         }
     }
 
     void promise22NoPlace() {
         for (int size : SIZES) {
             String program = "t" + (321 - size) + ";";
-            dueLook(start(program), "placeFor(" + size + ")", x -> x.placeFor(size), NONE);
+            dueUnchanged(start(program), "placeFor(" + size + ")", x -> x.placeFor(size), NONE);
         }
         due("lazy slots are not free", after("t320;f0-319;").placeFor(4), NONE);
         due("kept slots are not free", after("r32;t288;").placeFor(4), NONE);
@@ -175,7 +171,7 @@ public final class ForecastsBoundariesTest extends MapChecks {
 
     void promise22EightBlocksDoNotMatter() {
         for (int size : SIZES) {
-            dueLook(start(EIGHT_BLOCKS), "placeFor(" + size + ")", x -> x.placeFor(size), 32);
+            dueUnchanged(start(EIGHT_BLOCKS), "placeFor(" + size + ")", x -> x.placeFor(size), 32);
         }
     }
 
@@ -184,25 +180,25 @@ public final class ForecastsBoundariesTest extends MapChecks {
     }
 
     void promise23AllSlotsAreFree() {
-        dueLook(start(), "takes()", SlotMaps::takes, 320);
+        dueUnchanged(start(), "takes()", SlotMaps::takes, 320);
     }
 
     void promise23NoSlotIsFound() {
-        dueLook(start("t320;"), "takes()", SlotMaps::takes, 0);
-        dueLook(start("r32;t288;"), "takes()", SlotMaps::takes, 0);
-        dueLook(start(ALL_BITS), "takes()", SlotMaps::takes, 0);
-        dueLook(start("t320;f64-95;c1;d2;"), "takes()", SlotMaps::takes, 0);
+        dueUnchanged(start("t320;"), "takes()", SlotMaps::takes, 0);
+        dueUnchanged(start("r32;t288;"), "takes()", SlotMaps::takes, 0);
+        dueUnchanged(start(ALL_BITS), "takes()", SlotMaps::takes, 0);
+        dueUnchanged(start("t320;f64-95;c1;d2;"), "takes()", SlotMaps::takes, 0);
     }
 
     void promise23OneSlotIsFound() {
-        dueLook(start("t319;"), "takes() of the last free slot", SlotMaps::takes, 1);
-        dueLook(start("t320;f0;"), "takes() of a lazy slot", SlotMaps::takes, 1);
-        dueLook(start("t320;f319;d9;d0;"), "takes() of a lazy slot", SlotMaps::takes, 1);
+        dueUnchanged(start("t319;"), "takes() of the last free slot", SlotMaps::takes, 1);
+        dueUnchanged(start("t320;f0;"), "takes() of a lazy slot", SlotMaps::takes, 1);
+        dueUnchanged(start("t320;f319;d9;d0;"), "takes() of a lazy slot", SlotMaps::takes, 1);
     }
 
     void promise23AllSlotsAreLazy() {
-        dueLook(start("t320;f0-319;"), "takes()", SlotMaps::takes, 320);
-        dueLook(start("t320;f0-319;", ALL_BITS), "takes()", SlotMaps::takes, 320);
+        dueUnchanged(start("t320;f0-319;"), "takes()", SlotMaps::takes, 320);
+        dueUnchanged(start("t320;f0-319;", ALL_BITS), "takes()", SlotMaps::takes, 320);
     }
 
     void promise23KeptSlotsDoNotCount() {

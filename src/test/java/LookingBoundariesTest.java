@@ -1,8 +1,5 @@
 /** The boundary cases of the promises 15 to 19: count, slot, word, block, audit. */
 public final class LookingBoundariesTest extends MapChecks {
-    private static final String ALL_BITS = "d0;d1;d2;d3;d4;d5;d6;d7;d8;d9;";
-    private static final String EIGHT_BLOCKS = "r4;r4;r4;r4;r4;r4;r4;r4;";
-
     public static void main(String[] args) throws ReflectiveOperationException {
         new LookingBoundariesTest().runPromises(15, 19);
     }
@@ -13,7 +10,7 @@ public final class LookingBoundariesTest extends MapChecks {
 
     void promise15WhatOutOfRange() {
         for (int what : new int[] {-1, 12, 13, LEAST, MOST}) {
-            dueLook(some(), "count(" + what + ")", x -> x.count(what), INVALID);
+            dueUnchanged(some(), "count(" + what + ")", x -> x.count(what), INVALID);
         }
     }
 
@@ -21,7 +18,7 @@ public final class LookingBoundariesTest extends MapChecks {
         int[] dues = {272, 38, 3, 7, 1, 40, 2, 1, 1, 272, 3, 3};
         for (int what = 0; what < dues.length; what++) {
             int asked = what;
-            dueLook(some(), "count(" + what + ")", x -> x.count(asked), dues[what]);
+            dueUnchanged(some(), "count(" + what + ")", x -> x.count(asked), dues[what]);
         }
     }
 
@@ -118,16 +115,16 @@ public final class LookingBoundariesTest extends MapChecks {
 
     void promise16SlotOutOfRange() {
         for (int slot : new int[] {-1, 320, LEAST, MOST}) {
-            dueLook(some(), "slot(" + slot + ", 0)", x -> x.slot(slot, 0), INVALID);
-            dueLook(some(), "slot(" + slot + ", 1)", x -> x.slot(slot, 1), INVALID);
+            dueUnchanged(some(), "slot(" + slot + ", 0)", x -> x.slot(slot, 0), INVALID);
+            dueUnchanged(some(), "slot(" + slot + ", 1)", x -> x.slot(slot, 1), INVALID);
         }
         due("slot(320, 2)", new SlotMaps().slot(320, 2), INVALID);
     }
 
     void promise16WhatOutOfRange() {
         for (int what : new int[] {-1, 2, LEAST, MOST}) {
-            dueLook(some(), "slot(0, " + what + ")", x -> x.slot(0, what), INVALID);
-            dueLook(some(), "slot(319, " + what + ")", x -> x.slot(319, what), INVALID);
+            dueUnchanged(some(), "slot(0, " + what + ")", x -> x.slot(0, what), INVALID);
+            dueUnchanged(some(), "slot(319, " + what + ")", x -> x.slot(319, what), INVALID);
         }
     }
 
@@ -151,7 +148,7 @@ public final class LookingBoundariesTest extends MapChecks {
         for (int[] due : dues) {
             due("slot(" + due[0] + ", 0)", x.slot(due[0], 0), due[1]);
         }
-        dueLook(some(), "slot(3, 0)", y -> y.slot(3, 0), 2);
+        dueUnchanged(some(), "slot(3, 0)", y -> y.slot(3, 0), 2);
     }
 
     void promise16FirstAndLastSlotOfABlock() {
@@ -160,7 +157,7 @@ public final class LookingBoundariesTest extends MapChecks {
         for (int[] due : dues) {
             due("slot(" + due[0] + ", 1)", x.slot(due[0], 1), due[1]);
         }
-        dueLook(start("r4;"), "slot(3, 1)", y -> y.slot(3, 1), 0);
+        dueUnchanged(start("r4;"), "slot(3, 1)", y -> y.slot(3, 1), 0);
     }
 
     void promise16LastBlock() {
@@ -183,14 +180,14 @@ public final class LookingBoundariesTest extends MapChecks {
                 due("word(" + word + ", " + what + ")", after(some()).word(word, what), INVALID);
             }
         }
-        dueLook(some(), "word(10, 0)", x -> x.word(10, 0), INVALID);
-        dueLook(some(), "word(-1, 6)", x -> x.word(-1, 6), INVALID);
+        dueUnchanged(some(), "word(10, 0)", x -> x.word(10, 0), INVALID);
+        dueUnchanged(some(), "word(-1, 6)", x -> x.word(-1, 6), INVALID);
     }
 
     void promise17WhatOutOfRange() {
         for (int what : new int[] {-1, 7, LEAST, MOST}) {
-            dueLook(some(), "word(0, " + what + ")", x -> x.word(0, what), INVALID);
-            dueLook(some(), "word(9, " + what + ")", x -> x.word(9, what), INVALID);
+            dueUnchanged(some(), "word(0, " + what + ")", x -> x.word(0, what), INVALID);
+            dueUnchanged(some(), "word(9, " + what + ")", x -> x.word(9, what), INVALID);
         }
     }
 
@@ -231,9 +228,9 @@ public final class LookingBoundariesTest extends MapChecks {
     }
 
     void promise17ChangesNothing() {
-        dueLook(some(), "word(1, 6)", x -> x.word(1, 6), 48);
-        dueLook(some(), "word(2, 4)", x -> x.word(2, 4), 1);
-        dueLook(some(), "word(0, 5)", x -> x.word(0, 5), 1);
+        dueUnchanged(some(), "word(1, 6)", x -> x.word(1, 6), 48);
+        dueUnchanged(some(), "word(2, 4)", x -> x.word(2, 4), 1);
+        dueUnchanged(some(), "word(0, 5)", x -> x.word(0, 5), 1);
     }
 
     void promise18BlockOutOfRange() {
@@ -241,13 +238,13 @@ public final class LookingBoundariesTest extends MapChecks {
             for (int what = 0; what < 4; what++) {
                 due("block(" + block + ", " + what + ")", after(EIGHT_BLOCKS).block(block, what), INVALID);
             }
-            dueLook(some(), "block(" + block + ", 0)", x -> x.block(block, 0), INVALID);
+            dueUnchanged(some(), "block(" + block + ", 0)", x -> x.block(block, 0), INVALID);
         }
     }
 
     void promise18WhatOutOfRange() {
         for (int what : new int[] {-1, 4, LEAST, MOST}) {
-            dueLook(some(), "block(0, " + what + ")", x -> x.block(0, what), INVALID);
+            dueUnchanged(some(), "block(0, " + what + ")", x -> x.block(0, what), INVALID);
         }
     }
 
@@ -262,7 +259,7 @@ public final class LookingBoundariesTest extends MapChecks {
             int asked = what;
             due("block(0, " + what + ")", new SlotMaps().block(0, what), NONE);
             due("block(7, " + what + ")", new SlotMaps().block(7, what), NONE);
-            dueLook(some(), "block(1, " + what + ")", x -> x.block(1, asked), NONE);
+            dueUnchanged(some(), "block(1, " + what + ")", x -> x.block(1, asked), NONE);
         }
     }
 
@@ -304,13 +301,13 @@ public final class LookingBoundariesTest extends MapChecks {
     }
 
     void promise18ChangesNothing() {
-        dueLook(some(), "block(0, 0)", x -> x.block(0, 0), 40);
-        dueLook(some(), "block(0, 3)", x -> x.block(0, 3), 7);
+        dueUnchanged(some(), "block(0, 0)", x -> x.block(0, 0), 40);
+        dueUnchanged(some(), "block(0, 3)", x -> x.block(0, 3), 7);
     }
 
     void promise19WhatOutOfRange() {
         for (int what : new int[] {-1, 3, LEAST, MOST}) {
-            dueLook(some(), "audit(" + what + ")", x -> x.audit(what), INVALID);
+            dueUnchanged(some(), "audit(" + what + ")", x -> x.audit(what), INVALID);
             due("all are right: audit(" + what + ")", new SlotMaps().audit(what), INVALID);
         }
     }
@@ -343,9 +340,9 @@ public final class LookingBoundariesTest extends MapChecks {
     }
 
     void promise19ChangesNothing() {
-        dueLook(some(), "audit(0)", x -> x.audit(0), 1);
-        dueLook(some(), "audit(1)", x -> x.audit(1), 2);
-        dueLook(some(), "audit(2)", x -> x.audit(2), 1);
-        dueLook(start("t40;"), "audit(1)", x -> x.audit(1), NONE);
+        dueUnchanged(some(), "audit(0)", x -> x.audit(0), 1);
+        dueUnchanged(some(), "audit(1)", x -> x.audit(1), 2);
+        dueUnchanged(some(), "audit(2)", x -> x.audit(2), 1);
+        dueUnchanged(start("t40;"), "audit(1)", x -> x.audit(1), NONE);
     }
 }

@@ -13,6 +13,10 @@ abstract class MapChecks {
     static final int LEAST = Integer.MIN_VALUE;
     static final int MOST = Integer.MAX_VALUE;
 
+    static final int[] SIZES = {4, 8, 16, 32};
+    static final String ALL_BITS = "d0;d1;d2;d3;d4;d5;d6;d7;d8;d9;";
+    static final String EIGHT_BLOCKS = "r4;r4;r4;r4;r4;r4;r4;r4;";
+
     /** With more, the comparison of two objects would go past the 512 calls that the document speaks of. */
     private static final int START_CALLS = 80;
 
@@ -57,6 +61,10 @@ abstract class MapChecks {
         test = "";
     }
 
+    static boolean isSize(int size) {
+        return size == 4 || size == 8 || size == 16 || size == 32;
+    }
+
     static void text(SlotMaps x, String text) {
         x.clearText();
         for (int i = 0; i < text.length(); i++) {
@@ -96,17 +104,12 @@ abstract class MapChecks {
         due("run() of " + text, program(new SlotMaps(), text), want);
     }
 
-    /** The call answers with an error and changes nothing: the object stays like one that was not asked. */
-    final void dueRefused(String[] programs, String name, ToIntFunction<SlotMaps> call, int want) {
+    /** The call answers so, be it an error or not, and changes nothing: the object stays like one not asked. */
+    final void dueUnchanged(String[] programs, String name, ToIntFunction<SlotMaps> call, int want) {
         SlotMaps x = after(programs);
         String of = name + " after " + String.join(" ", programs);
         due(of, call.applyAsInt(x), want);
         dueSame(of, x, after(programs));
-    }
-
-    /** The call answers so and changes nothing. */
-    final void dueLook(String[] programs, String name, ToIntFunction<SlotMaps> call, int want) {
-        dueRefused(programs, name, call, want);
     }
 
     /** Looks at all that can be seen of two objects, then at the states of their histories: uses them up. */

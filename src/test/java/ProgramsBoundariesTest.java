@@ -22,13 +22,13 @@ public final class ProgramsBoundariesTest extends MapChecks {
 
     void promise12CharacterTooSmall() {
         for (int character : new int[] {0, -1, LEAST}) {
-            dueRefused(start("t;"), "append(" + character + ")", x -> x.append(character), INVALID);
+            dueUnchanged(start("t;"), "append(" + character + ")", x -> x.append(character), INVALID);
         }
     }
 
     void promise12CharacterTooLarge() {
         for (int character : new int[] {256, 65536 + 't', MOST}) {
-            dueRefused(start("t;"), "append(" + character + ")", x -> x.append(character), INVALID);
+            dueUnchanged(start("t;"), "append(" + character + ")", x -> x.append(character), INVALID);
         }
     }
 

@@ -21,9 +21,6 @@ public final class PromisesTest extends MapChecks {
         test.damage();
         test.repair();
         test.undo();
-        test.undoOfEachAction();
-        test.undoOfBlocks();
-        test.undoOfMany();
         test.append();
         test.clearText();
         test.runCommands();
@@ -426,85 +423,6 @@ public final class PromisesTest extends MapChecks {
         due("11: and is run", y.run(), 1);
         due("11: undo() of the program", y.undo(), 0);
         due("11: used", y.count(1), 0);
-    }
-
-    /** Each on an object of its own, so that no state of an earlier action can stand in for its own. */
-    private void undoOfEachAction() {
-        for (int action = 0; action < 10; action++) {
-            SlotMaps x = after("t33;f3;r8;r4;b0;d5;");
-            due("11: action " + action + " is successful", act(x, action) >= 0 ? 1 : 0, 1);
-            dueUndone(x, "action " + action);
-        }
-    }
-
-    private static int act(SlotMaps x, int action) {
-        switch (action) {
-            case 0:
-                return x.take();
-            case 1:
-                return x.takeRun(3);
-            case 2:
-                return x.giveBack(0, 40);
-            case 3:
-                return x.clear(1);
-            case 4:
-                return x.reserve(32);
-            case 5:
-                return x.takeIn(0);
-            case 6:
-                return x.giveUp(0);
-            case 7:
-                return x.damage(5);
-            case 8:
-                return x.repair();
-            default:
-                return program(x, "a;t5;");
-        }
-    }
-
-    private void dueUndone(SlotMaps x, String action) {
-        String call = "11: after undo() of " + action + ": ";
-        int[] counts = {275, 33, 1, 11, 2, 33, 2};
-        due(call + "the states", x.count(10), 2);
-        due(call + "undo()", x.undo(), 1);
-        for (int what = 0; what < counts.length; what++) {
-            due(call + "count(" + what + ")", x.count(what), counts[what]);
-        }
-        due(call + "block(0, 0)", x.block(0, 0), 40);
-        due(call + "block(0, 1)", x.block(0, 1), 8);
-        due(call + "block(1, 0)", x.block(1, 0), 36);
-        due(call + "block(1, 1)", x.block(1, 1), 4);
-        due(call + "slot(40, 0)", x.slot(40, 0), 1);
-        due(call + "slot(3, 0)", x.slot(3, 0), 2);
-        due(call + "word(5, 4)", x.word(5, 4), 1);
-    }
-
-    private void undoOfBlocks() {
-        SlotMaps x = after("t5;r8;r4;");
-        x.giveUp(0);
-        x.reserve(16);
-        due("11: the new block", x.block(0, 0), 32);
-        due("11: undo() of it", x.undo(), 2);
-        due("11: no block", x.block(0, 0), NONE);
-        due("11: undo() of giveUp()", x.undo(), 1);
-        due("11: block(0, 0)", x.block(0, 0), 8);
-        due("11: block(0, 1)", x.block(0, 1), 8);
-        due("11: slot(8, 1)", x.slot(8, 1), 0);
-    }
-
-    /** Past the fifth state the oldest one is dropped, however often. */
-    private void undoOfMany() {
-        for (int takes = 6; takes < 30; takes++) {
-            SlotMaps x = new SlotMaps();
-            for (int i = 0; i < takes; i++) {
-                x.take();
-            }
-            for (int left = 4; left >= 0; left--) {
-                due("11: undo() after " + takes, x.undo(), left);
-                due("11: used after " + takes, x.count(1), takes - 5 + left);
-            }
-            due("11: undo() of nothing after " + takes, x.undo(), STATE);
-        }
     }
 
     private void append() {

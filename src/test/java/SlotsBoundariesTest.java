@@ -2,7 +2,6 @@
 public final class SlotsBoundariesTest extends MapChecks {
     private static final String[] EMPTY = start();
     private static final String[] ALL_USED = start("t;", "t319;");
-    private static final String ALL_BITS = "d0;d1;d2;d3;d4;d5;d6;d7;d8;d9;";
 
     public static void main(String[] args) throws ReflectiveOperationException {
         new SlotsBoundariesTest().runPromises(1, 5);
@@ -200,21 +199,21 @@ public final class SlotsBoundariesTest extends MapChecks {
     }
 
     void promise02RefusedIfAllSlotsAreUsed() {
-        dueRefused(ALL_USED, "take()", SlotMaps::take, CAPACITY);
+        dueUnchanged(ALL_USED, "take()", SlotMaps::take, CAPACITY);
     }
 
     void promise02RefusedIfAllSlotsAreUsedOrKept() {
-        dueRefused(start("r32;r16;r4;t268;"), "take()", SlotMaps::take, CAPACITY);
+        dueUnchanged(start("r32;r16;r4;t268;"), "take()", SlotMaps::take, CAPACITY);
     }
 
     void promise02RefusedIfFreeSlotsAreInWordsPassedOver() {
-        dueRefused(start("t320;", "f64-95;", "c1;", "d2;"), "take()", SlotMaps::take, CAPACITY);
-        dueRefused(start(ALL_BITS), "take()", SlotMaps::take, CAPACITY);
+        dueUnchanged(start("t320;", "f64-95;", "c1;", "d2;"), "take()", SlotMaps::take, CAPACITY);
+        dueUnchanged(start(ALL_BITS), "take()", SlotMaps::take, CAPACITY);
     }
 
     void promise02RefusedTakesBackLooksAndBits() {
         String[] programs = start("t320;", "f64-95;c1;d2;d0;d4;d9;");
-        dueRefused(programs, "take()", SlotMaps::take, CAPACITY);
+        dueUnchanged(programs, "take()", SlotMaps::take, CAPACITY);
         SlotMaps x = after(programs);
         x.take();
         due("looks", x.count(5), 320);
@@ -231,14 +230,14 @@ public final class SlotsBoundariesTest extends MapChecks {
     }
 
     void promise03ManyTooSmall() {
-        dueRefused(start("t5;"), "takeRun(0)", x -> x.takeRun(0), INVALID);
-        dueRefused(start("t5;"), "takeRun(-1)", x -> x.takeRun(-1), INVALID);
-        dueRefused(start("t5;"), "takeRun(LEAST)", x -> x.takeRun(LEAST), INVALID);
+        dueUnchanged(start("t5;"), "takeRun(0)", x -> x.takeRun(0), INVALID);
+        dueUnchanged(start("t5;"), "takeRun(-1)", x -> x.takeRun(-1), INVALID);
+        dueUnchanged(start("t5;"), "takeRun(LEAST)", x -> x.takeRun(LEAST), INVALID);
     }
 
     void promise03ManyTooLarge() {
-        dueRefused(start("t5;"), "takeRun(65)", x -> x.takeRun(65), INVALID);
-        dueRefused(start("t5;"), "takeRun(MOST)", x -> x.takeRun(MOST), INVALID);
+        dueUnchanged(start("t5;"), "takeRun(65)", x -> x.takeRun(65), INVALID);
+        dueUnchanged(start("t5;"), "takeRun(MOST)", x -> x.takeRun(MOST), INVALID);
     }
 
     void promise03LeastMany() {
@@ -262,13 +261,13 @@ public final class SlotsBoundariesTest extends MapChecks {
     }
 
     void promise03NoFreeSlot() {
-        dueRefused(ALL_USED, "takeRun(1)", x -> x.takeRun(1), CAPACITY);
-        dueRefused(ALL_USED, "takeRun(64)", x -> x.takeRun(64), CAPACITY);
+        dueUnchanged(ALL_USED, "takeRun(1)", x -> x.takeRun(1), CAPACITY);
+        dueUnchanged(ALL_USED, "takeRun(64)", x -> x.takeRun(64), CAPACITY);
     }
 
     void promise03EachRowIsOneTooShort() {
         String[] programs = start("t320;", "f0-2;f10-11;f30-32;f317-319;", "c10;");
-        dueRefused(programs, "takeRun(4)", x -> x.takeRun(4), CAPACITY);
+        dueUnchanged(programs, "takeRun(4)", x -> x.takeRun(4), CAPACITY);
         due("takeRun(3)", after(programs).takeRun(3), 0);
     }
 
@@ -301,11 +300,11 @@ public final class SlotsBoundariesTest extends MapChecks {
         due("takeRun(64)", x.takeRun(64), 256);
         dueKinds(x, 319, 319, 1);
         due("looks", x.count(5), 256 + 10);
-        dueRefused(start("t257;"), "takeRun(64)", y -> y.takeRun(64), CAPACITY);
+        dueUnchanged(start("t257;"), "takeRun(64)", y -> y.takeRun(64), CAPACITY);
     }
 
     void promise03NotFromTheLastSlotToTheFirst() {
-        dueRefused(start("t320;f0;f319;c10;"), "takeRun(2)", x -> x.takeRun(2), CAPACITY);
+        dueUnchanged(start("t320;f0;f319;c10;"), "takeRun(2)", x -> x.takeRun(2), CAPACITY);
     }
 
     void promise03LooksUpToTheWordInWhichTheRunEnds() {
@@ -335,7 +334,7 @@ public final class SlotsBoundariesTest extends MapChecks {
     }
 
     void promise03LazyAndKeptSlotsAreNotFree() {
-        dueRefused(start("r32;t288;", "f40-49;"), "takeRun(1)", x -> x.takeRun(1), CAPACITY);
+        dueUnchanged(start("r32;t288;", "f40-49;"), "takeRun(1)", x -> x.takeRun(1), CAPACITY);
         due("a run ends in front of a lazy slot", after("t10;f5-8;").takeRun(2), 10);
         due("a run ends in front of a kept slot", after("t2;r4;").takeRun(3), 8);
     }
@@ -350,28 +349,28 @@ public final class SlotsBoundariesTest extends MapChecks {
     }
 
     void promise04FromTooSmall() {
-        dueRefused(ALL_USED, "giveBack(-1, 5)", x -> x.giveBack(-1, 5), INVALID);
-        dueRefused(ALL_USED, "giveBack(-1, -1)", x -> x.giveBack(-1, -1), INVALID);
-        dueRefused(ALL_USED, "giveBack(LEAST, 319)", x -> x.giveBack(LEAST, 319), INVALID);
+        dueUnchanged(ALL_USED, "giveBack(-1, 5)", x -> x.giveBack(-1, 5), INVALID);
+        dueUnchanged(ALL_USED, "giveBack(-1, -1)", x -> x.giveBack(-1, -1), INVALID);
+        dueUnchanged(ALL_USED, "giveBack(LEAST, 319)", x -> x.giveBack(LEAST, 319), INVALID);
     }
 
     void promise04FromTooLarge() {
-        dueRefused(ALL_USED, "giveBack(320, 320)", x -> x.giveBack(320, 320), INVALID);
-        dueRefused(ALL_USED, "giveBack(MOST, MOST)", x -> x.giveBack(MOST, MOST), INVALID);
-        dueRefused(ALL_USED, "giveBack(320, 319)", x -> x.giveBack(320, 319), INVALID);
+        dueUnchanged(ALL_USED, "giveBack(320, 320)", x -> x.giveBack(320, 320), INVALID);
+        dueUnchanged(ALL_USED, "giveBack(MOST, MOST)", x -> x.giveBack(MOST, MOST), INVALID);
+        dueUnchanged(ALL_USED, "giveBack(320, 319)", x -> x.giveBack(320, 319), INVALID);
     }
 
     void promise04ToTooLarge() {
-        dueRefused(ALL_USED, "giveBack(0, 320)", x -> x.giveBack(0, 320), INVALID);
-        dueRefused(ALL_USED, "giveBack(319, 320)", x -> x.giveBack(319, 320), INVALID);
-        dueRefused(ALL_USED, "giveBack(0, MOST)", x -> x.giveBack(0, MOST), INVALID);
+        dueUnchanged(ALL_USED, "giveBack(0, 320)", x -> x.giveBack(0, 320), INVALID);
+        dueUnchanged(ALL_USED, "giveBack(319, 320)", x -> x.giveBack(319, 320), INVALID);
+        dueUnchanged(ALL_USED, "giveBack(0, MOST)", x -> x.giveBack(0, MOST), INVALID);
     }
 
     void promise04ToLessThanFrom() {
-        dueRefused(ALL_USED, "giveBack(5, 4)", x -> x.giveBack(5, 4), INVALID);
-        dueRefused(ALL_USED, "giveBack(319, 0)", x -> x.giveBack(319, 0), INVALID);
-        dueRefused(ALL_USED, "giveBack(0, -1)", x -> x.giveBack(0, -1), INVALID);
-        dueRefused(ALL_USED, "giveBack(0, LEAST)", x -> x.giveBack(0, LEAST), INVALID);
+        dueUnchanged(ALL_USED, "giveBack(5, 4)", x -> x.giveBack(5, 4), INVALID);
+        dueUnchanged(ALL_USED, "giveBack(319, 0)", x -> x.giveBack(319, 0), INVALID);
+        dueUnchanged(ALL_USED, "giveBack(0, -1)", x -> x.giveBack(0, -1), INVALID);
+        dueUnchanged(ALL_USED, "giveBack(0, LEAST)", x -> x.giveBack(0, LEAST), INVALID);
     }
 
     void promise04NoSuchSlotsIsToldBeforeNoneUsed() {
@@ -409,11 +408,11 @@ public final class SlotsBoundariesTest extends MapChecks {
     }
 
     void promise04NoneOfThemIsUsed() {
-        dueRefused(EMPTY, "giveBack(0, 319)", x -> x.giveBack(0, 319), STATE);
-        dueRefused(start("t9;f0-8;"), "giveBack(0, 319) of lazy slots", x -> x.giveBack(0, 319), STATE);
-        dueRefused(start("r32;"), "giveBack(0, 31) of kept slots", x -> x.giveBack(0, 31), STATE);
-        dueRefused(start("t9;", "f2-6;"), "giveBack(2, 6)", x -> x.giveBack(2, 6), STATE);
-        dueRefused(start("t9;"), "giveBack(9, 319)", x -> x.giveBack(9, 319), STATE);
+        dueUnchanged(EMPTY, "giveBack(0, 319)", x -> x.giveBack(0, 319), STATE);
+        dueUnchanged(start("t9;f0-8;"), "giveBack(0, 319) of lazy slots", x -> x.giveBack(0, 319), STATE);
+        dueUnchanged(start("r32;"), "giveBack(0, 31) of kept slots", x -> x.giveBack(0, 31), STATE);
+        dueUnchanged(start("t9;", "f2-6;"), "giveBack(2, 6)", x -> x.giveBack(2, 6), STATE);
+        dueUnchanged(start("t9;"), "giveBack(9, 319)", x -> x.giveBack(9, 319), STATE);
     }
 
     void promise04OneOfThemIsUsed() {
@@ -438,6 +437,12 @@ public final class SlotsBoundariesTest extends MapChecks {
         dueKinds(x, 32, 63, 3);
     }
 
+    void promise04BlocksOfOtherWordsDoNotMatter() {
+        SlotMaps x = after("r4;t68;");
+        due("giveBack(32, 67)", x.giveBack(32, 67), 36);
+        dueKinds(x, 32, 67, 2);
+    }
+
     void promise04SlotsOfABlockGivenUpAreLazy() {
         SlotMaps x = after("r4;b0;r8;");
         x.giveUp(0);
@@ -453,6 +458,7 @@ public final class SlotsBoundariesTest extends MapChecks {
         due("bits", x.count(6), 10);
         due("full words", x.count(7), 10);
         due("free", x.count(0), 0);
+        due("looks", x.count(5), 320);
     }
 
     void promise04BitsOfTheWordsOfTheSlotsAlone() {
@@ -475,15 +481,15 @@ public final class SlotsBoundariesTest extends MapChecks {
 
     void promise05WordsTooFew() {
         String[] programs = start("t320;", "f0-99;");
-        dueRefused(programs, "clear(0)", x -> x.clear(0), INVALID);
-        dueRefused(programs, "clear(-1)", x -> x.clear(-1), INVALID);
-        dueRefused(programs, "clear(LEAST)", x -> x.clear(LEAST), INVALID);
+        dueUnchanged(programs, "clear(0)", x -> x.clear(0), INVALID);
+        dueUnchanged(programs, "clear(-1)", x -> x.clear(-1), INVALID);
+        dueUnchanged(programs, "clear(LEAST)", x -> x.clear(LEAST), INVALID);
     }
 
     void promise05WordsTooMany() {
         String[] programs = start("t320;", "f0-99;");
-        dueRefused(programs, "clear(11)", x -> x.clear(11), INVALID);
-        dueRefused(programs, "clear(MOST)", x -> x.clear(MOST), INVALID);
+        dueUnchanged(programs, "clear(11)", x -> x.clear(11), INVALID);
+        dueUnchanged(programs, "clear(MOST)", x -> x.clear(MOST), INVALID);
         due("nothing lazy", new SlotMaps().clear(11), INVALID);
     }
 

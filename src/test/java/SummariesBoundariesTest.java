@@ -2,15 +2,13 @@ import java.util.function.ToIntFunction;
 
 /** The boundary cases of the promises 9 to 11: damage, repair, undo. */
 public final class SummariesBoundariesTest extends MapChecks {
-    private static final String ALL_BITS = "d0;d1;d2;d3;d4;d5;d6;d7;d8;d9;";
-
     public static void main(String[] args) throws ReflectiveOperationException {
         new SummariesBoundariesTest().runPromises(9, 11);
     }
 
     void promise09NoSuchWord() {
         for (int word : new int[] {-1, 10, 32, LEAST, MOST}) {
-            dueRefused(start("t40;", "d1;"), "damage(" + word + ")", x -> x.damage(word), INVALID);
+            dueUnchanged(start("t40;", "d1;"), "damage(" + word + ")", x -> x.damage(word), INVALID);
         }
     }
 
@@ -100,7 +98,7 @@ public final class SummariesBoundariesTest extends MapChecks {
     }
 
     void promise11EmptyHistory() {
-        dueRefused(start(), "undo()", SlotMaps::undo, STATE);
+        dueUnchanged(start(), "undo()", SlotMaps::undo, STATE);
         SlotMaps x = after("t5;");
         x.undo();
         due("undo() once more", x.undo(), STATE);
@@ -173,6 +171,42 @@ public final class SummariesBoundariesTest extends MapChecks {
         due("undo()", x.undo(), 0);
         due("used", x.count(1), 3);
         due("undo() of nothing", x.undo(), STATE);
+    }
+
+    /** Each on an object of its own, so that no state of an earlier action can stand in for its own. */
+    void promise11StateBeforeEachActionIsRestored() {
+        dueUndone("take()", SlotMaps::take);
+        dueUndone("takeRun(64)", x -> x.takeRun(64));
+        dueUndone("giveBack(0, 319)", x -> x.giveBack(0, 319));
+        dueUndone("clear(10)", x -> x.clear(10));
+        dueUndone("reserve(32)", x -> x.reserve(32));
+        dueUndone("takeIn(0)", x -> x.takeIn(0));
+        dueUndone("giveUp(0)", x -> x.giveUp(0));
+        dueUndone("damage(9)", x -> x.damage(9));
+        dueUndone("repair()", SlotMaps::repair);
+        dueUndone("run()", SlotMaps::run);
+    }
+
+    private void dueUndone(String call, ToIntFunction<SlotMaps> action) {
+        String[] programs = start("t31;d9;f3;", "r8;r4;b0;d5;");
+        SlotMaps x = after(programs);
+        due(call + " is successful", action.applyAsInt(x) >= 0 ? 1 : 0, 1);
+        due("states after " + call, x.count(10), 3);
+        due("undo() of " + call, x.undo(), 2);
+        dueSame("undo() of " + call, x, after(programs));
+    }
+
+    void promise11PlaceOfABlockIsRestored() {
+        SlotMaps x = after("t5;r8;r4;");
+        x.giveUp(0);
+        due("reserve(16)", x.reserve(16), 0);
+        due("its first slot", x.block(0, 0), 32);
+        due("undo() of it", x.undo(), 2);
+        due("block(0, 0)", x.block(0, 0), NONE);
+        due("undo() of giveUp(0)", x.undo(), 1);
+        due("block(0, 0)", x.block(0, 0), 8);
+        due("block(0, 1)", x.block(0, 1), 8);
+        due("slot(15, 1)", x.slot(15, 1), 0);
     }
 
     void promise11LooksAreRestored() {
