@@ -2,7 +2,7 @@ import java.util.ArrayDeque;
 import java.util.Arrays;
 import java.util.Deque;
 
-/** The document once more, slot by slot and without any skill, for RandomRunsTest. */
+/** The document once more, slot by slot and without any skill, for RandomRunsTest and ShortTextsTest. */
 final class SlotModel {
     private static final int FREE = 0;
     private static final int USED = 1;
